@@ -1,6 +1,6 @@
 /**
- * A clearing bank whose accounts have gates. What each call promises stands in the document DOC.md; words in capitals are
- * its terms.
+ * A clearing bank whose accounts have gates. What each call promises stands in the document DOC.md; words in capitals
+ * are its terms.
  *
  * <p>All rows are made with the object and used again, so no later call makes one.
  */
@@ -517,7 +517,6 @@ public final class ClearingGates {
       return true;
     }
 
-    /** Writes every field of the new ACCOUNT: one that an image took back may have left its numbers there. */
     int open(int kind, int balance) {
       int account = accounts;
       kinds[account] = kind;
@@ -571,10 +570,12 @@ public final class ClearingGates {
       System.arraycopy(other.kinds, 0, kinds, 0, MOST_ACCOUNTS);
       System.arraycopy(other.balances, 0, balances, 0, MOST_ACCOUNTS);
       System.arraycopy(other.limits, 0, limits, 0, MOST_ACCOUNTS);
-      System.arraycopy(other.gates, 0, gates, 0, MOST_ACCOUNTS);
       System.arraycopy(other.entries, 0, entries, 0, MOST_ACCOUNTS);
       System.arraycopy(other.leavings, 0, leavings, 0, MOST_ACCOUNTS);
       System.arraycopy(other.agains, 0, agains, 0, MOST_ACCOUNTS);
+      for (int account = 0; account < MOST_ACCOUNTS; account++) {
+        gates[account] = other.gates[account];
+      }
       accounts = other.accounts;
       fees = other.fees;
       missed = other.missed;
@@ -727,7 +728,7 @@ public final class ClearingGates {
     int numberBetween(int from, int end) {
       int number = 0;
       for (int place = from; place < end; place++) {
-        number = number * 10 + figureAt(place);
+        number = number * 10 + byteAt(place) - '0';
       }
       return number;
     }

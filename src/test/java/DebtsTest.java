@@ -98,6 +98,18 @@ public final class DebtsTest {
     CHECKS.due("the short ring first", y.net(), 1);
     CHECKS.due("2 to 1", y.owed(2, 1), 5);
     CHECKS.due("2 to 0", y.owed(2, 0), 0);
+    // A ring is of unlike ACCOUNTS: 1 and 2, who owe each other, are no part of the way twice.
+    ClearingGates u = bank(4);
+    u.owe(0, 1, 9);
+    u.owe(1, 2, 9);
+    u.owe(2, 1, 2);
+    u.owe(2, 3, 9);
+    u.owe(3, 0, 1);
+    CHECKS.due("0 1 2 3, then 1 2", u.net(), 2);
+    CHECKS.due("0 to 1", u.owed(0, 1), 8);
+    CHECKS.due("1 to 2", u.owed(1, 2), 6);
+    CHECKS.due("2 to 1", u.owed(2, 1), 0);
+    CHECKS.due("2 to 3", u.owed(2, 3), 8);
     // 0 is of no ring; 1 and 2 go a blind way by 0 first, then step back.
     ClearingGates z = bank(5);
     z.owe(1, 0, 9);

@@ -2,6 +2,7 @@ import java.lang.reflect.Constructor;
 import java.lang.reflect.Field;
 import java.lang.reflect.Method;
 import java.lang.reflect.Modifier;
+import java.util.List;
 import java.util.TreeSet;
 
 /** The public face: its members and no others. */
@@ -32,7 +33,7 @@ public final class FaceTest {
   private static void methods() {
     CHECKS.due("public and final", Modifier.isPublic(ClearingGates.class.getModifiers())
         && Modifier.isFinal(ClearingGates.class.getModifiers()));
-    TreeSet<String> want = new TreeSet<>(java.util.List.of(FACE));
+    TreeSet<String> want = new TreeSet<>(List.of(FACE));
     TreeSet<String> got = new TreeSet<>();
     TreeSet<String> names = new TreeSet<>();
     for (String method : FACE) {
@@ -70,7 +71,8 @@ public final class FaceTest {
         CHECKS.due("static fields are final: " + field.getName(), Modifier.isFinal(field.getModifiers()));
       }
     }
-    CHECKS.due("open fields " + open, open.equals(new TreeSet<>(java.util.List.of("NONE", "BAD", "STATE", "FULL", "NO"))));
+    TreeSet<String> constants = new TreeSet<>(List.of("NONE", "BAD", "STATE", "FULL", "NO"));
+    CHECKS.due("open fields " + open, open.equals(constants));
     for (Class<?> inside : ClearingGates.class.getDeclaredClasses()) {
       CHECKS.due("static inside: " + inside, Modifier.isStatic(inside.getModifiers()));
     }

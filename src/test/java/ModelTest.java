@@ -198,7 +198,8 @@ public final class ModelTest {
       case 2 -> CHECKS.due(at + "hinges " + p, x.hinges(p), model.hinges(p));
       case 3 -> {
         what = near(1);
-        CHECKS.due(at + "tells " + s + " " + p + " " + a + " " + what, x.tells(s, p, a, what), model.tells(s, p, a, what));
+        String call = "tells " + s + " " + p + " " + a + " " + what;
+        CHECKS.due(at + call, x.tells(s, p, a, what), model.tells(s, p, a, what));
       }
       default -> CHECKS.due(at + "film " + s + " " + p, x.film(s, p), model.film(s, p));
     }

@@ -7,6 +7,7 @@ public final class ProgramsTest {
     promise10Order();
     promise11Programs();
     promise11Faults();
+    promise11Rests();
     promise11Depth();
     promise11Full();
     CHECKS.end();
@@ -84,6 +85,22 @@ public final class ProgramsTest {
       CHECKS.due("no program", x.count(1), 0);
       CHECKS.due("the next one is number 0", Checks.program(x, "x"), 0);
     }
+  }
+
+  /** What an earlier tape left behind doesn't matter, nor what would stand behind the 80th byte. */
+  private static void promise11Rests() {
+    ClearingGates x = new ClearingGates();
+    CHECKS.due("a figure too many", Checks.program(x, "n00"), -102);
+    CHECKS.due("no figure any more", Checks.program(x, "n"), -101);
+    CHECKS.due("a loop that isn't closed", Checks.program(x, "{1{1"), -104);
+    CHECKS.due("no loop any more", Checks.program(x, "b"), -100);
+    CHECKS.due("brackets that aren't closed", Checks.program(x, "[[[[[[[["), -108);
+    CHECKS.due("none of them any more", Checks.program(x, "]"), -100);
+    String[] ends = {"(", "{", "[", "<", "p", "p0", "p01", "n", "a", "(0", "{1", "{1b"};
+    for (String end : ends) {
+      CHECKS.due("80 bytes, ending by " + end, Checks.program(x, "x".repeat(80 - end.length()) + end), -180);
+    }
+    CHECKS.due("80 bytes, ending by a payment", Checks.program(x, "x".repeat(76) + "p011"), 0);
   }
 
   private static void promise11Depth() {

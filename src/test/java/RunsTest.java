@@ -13,6 +13,7 @@ public final class RunsTest {
     promise12NarrowTries();
     promise12Loops();
     promise12Long();
+    promise12Depth();
     promise12Undo();
     promise12Bad();
     promise13Trace();
@@ -174,6 +175,7 @@ public final class RunsTest {
     ClearingGates just = Checks.bank(1, "{7{7{9n0}}}n0n0");
     CHECKS.due("1 + 7 + 49 + 441 + 2 items", just.run(0), 0);
     CHECKS.due("all were refused bells", just.count(4), 443);
+    CHECKS.due("items are counted anew by each run", just.run(0), 0);
     ClearingGates over = Checks.bank(1, "{7{7{9n0}}}n0n0n0");
     CHECKS.due("one more", over.run(0), LONG);
     CHECKS.due("it isn't begun", over.count(4), 443);
@@ -192,6 +194,17 @@ public final class RunsTest {
     ClearingGates fewer = Checks.bank(1, "{8{9{5(7xxxx)}}}");
     CHECKS.due("1 + 8 + 72 + 360 items", fewer.run(0), 0);
     CHECKS.due("missed", fewer.count(2), 360);
+  }
+
+  private static void promise12Depth() {
+    after(8, "(0(1(2(3(4(5(6(7p077)))))))p011)", UNGUARDED, "10 11 12 13 14 15 16 17 107 27 26 25 24 23 22 21 20");
+    after(1, "[[[[[[[[x]]]]]]]]n0", 0, "54 40");
+    after(1, "<<<<<<<<p011>>>>>>>>n0", 0, "52 40");
+    after(1, "{1{1{1{1{1{1{1{2n0}}}}}}}}", 0, "40 40");
+    ClearingGates x = after(2, "(0(1p011[[[[[p012[p014x]]x]]]]))", 0, "10 11 101 101 101 54 54 21 20");
+    CHECKS.due("undone at each depth", x.of(0, 0), 99);
+    ClearingGates y = after(2, "(0(1[[[[[p012[p014x]]]]]]))", 0, "10 11 101 101 54 21 20");
+    CHECKS.due("undone by the innermost try alone", y.of(0, 0), 98);
   }
 
   private static void promise12Undo() {

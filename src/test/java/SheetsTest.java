@@ -14,7 +14,6 @@ public final class SheetsTest {
 
   private static int sizeOf(ClearingGates x, int sheet) {
     int size = 0;
-    // Item 0 is put as it was left by no test here: 0.
     while (size <= 60 && x.copy(sheet, size, sheet, size, 1) == 1) {
       size++;
     }
@@ -50,7 +49,7 @@ public final class SheetsTest {
     ClearingGates x = Checks.bank(2, "[]");
     x.sheet(0, 1, 6);
     for (int i = 0; i < 6; i++) {
-      x.put(0, i, i);
+      x.put(0, i, 9 - i);
     }
     x.sheet(0, 1, 3);
     x.put(0, 1, 1);

@@ -30,6 +30,8 @@ public final class ThoughtTest {
     }
     CHECKS.due("program -1", x.would(-1, 0), ClearingGates.NO);
     CHECKS.due("program 1", x.would(1, 0), ClearingGates.NO);
+    CHECKS.due("entries of eight", Checks.bank(8, "(0(7(7)))(3)").would(0, 3), 4);
+    CHECKS.due("balance of the eighth", Checks.bank(8, "(0(7p7030))").would(0, 17), 70);
     CHECKS.due("all marks", Checks.bank(1, "{9{9n0}}").would(0, 2), 81);
   }
 
@@ -60,10 +62,7 @@ public final class ThoughtTest {
   }
 
   private static void promise15AllSteps() {
-    ClearingGates x = new ClearingGates();
-    x.account(0, 0);
-    x.account(0, 0);
-    // A payment of 9999 in loops, so that each power of two up to the greatest is needed for some number of times.
+    // Payments of 9999 in loops need the greatest powers of two, then more than those.
     String[] texts = {"(0(1p011))", "(0(1p012))", "(0(1p013))", "(0(1p01512))", "(0(1{9p019999}))",
         "(0(1{9{9p019999}}))", "(0(1{9{9p019999}}{9p019999}{9p019999}{5p019999}))",
         "(0(1{9{9p019999}}{9p019999}{9p019999}{6p019999}))"};
