@@ -48,13 +48,14 @@ public final class ImageTest {
     Checks.program(x, "x");
     CHECKS.due("all is otherwise", !state(x).equals(before));
     CHECKS.due("back", x.back(), 4);
-    CHECKS.due("all is as before: " + state(x) + " for " + before, state(x).equals(before));
+    String now = state(x);
+    CHECKS.due("all is as before: " + now + " for " + before, now.equals(before));
     x.run(0);
-    CHECKS.due("otherwise again", !state(x).equals(before));
     CHECKS.due("back again", x.back(), 4);
     CHECKS.due("all is as before again", state(x).equals(before));
   }
 
+  /** All that can be seen of five ACCOUNTS and of the bank, in some 90 calls: an object is used for 512. */
   private static String state(ClearingGates x) {
     StringBuilder all = new StringBuilder();
     for (int what = 0; what <= 5; what++) {
@@ -63,14 +64,14 @@ public final class ImageTest {
     for (int what = 0; what <= 2; what++) {
       all.append(x.sum(what)).append(' ');
     }
-    for (int account = 0; account < 8; account++) {
+    for (int account = 0; account < 5; account++) {
       for (int what = 0; what <= 6; what++) {
         all.append(x.told(account, what)).append(' ');
       }
       for (int what = 0; what <= 2; what++) {
         all.append(x.of(account, what)).append(' ');
       }
-      for (int other = 0; other < 8; other++) {
+      for (int other = 0; other < 5; other++) {
         all.append(x.owed(account, other)).append(' ');
       }
     }

@@ -2,15 +2,20 @@ import java.util.ArrayList;
 import java.util.List;
 import java.util.Random;
 
-/** Long runs of calls, the same ones each time, on the class and on the model: all answers are the same. */
+/**
+ * Long runs of calls, the same ones each time, on the class and on the model: all answers are the same. An object is
+ * used for 512 calls, so each run ends by looking at all that can be seen while there are calls left for that.
+ */
 public final class ModelTest {
-  private static final int RUNS = 1500, CALLS = 512;
+  private static final int RUNS = 6000, CALLS = 512, LOOK = 8 + 3 + 8 * (7 + 3 + 8) + 60;
   private static final Checks CHECKS = new Checks("ModelTest");
 
   private final Random random;
   private final ClearingGates x = new ClearingGates();
   private final Model model = new Model();
   private final List<Integer> pending = new ArrayList<>();
+  private int calls = 0;
+  private String at = "";
 
   private ModelTest(long seed) {
     random = new Random(seed);
@@ -19,11 +24,19 @@ public final class ModelTest {
   public static void main(String[] args) {
     for (int run = 0; run < RUNS; run++) {
       ModelTest test = new ModelTest(run);
-      for (int call = 0; call < CALLS; call++) {
-        test.step("run " + run + " call " + call + ": ");
+      while (test.calls < CALLS - LOOK) {
+        test.at = "run " + run + " call " + test.calls + ": ";
+        test.step();
       }
+      test.lookAtAll();
+      CHECKS.due("512 calls at most", test.calls <= CALLS);
     }
     CHECKS.end();
+  }
+
+  private void due(String call, long got, long want) {
+    calls++;
+    CHECKS.due(at + call, got, want);
   }
 
   private int below(int n) {
@@ -58,28 +71,28 @@ public final class ModelTest {
     return below(10) == 0 ? near(1000000000) : some[below(some.length)];
   }
 
-  private void step(String at) {
+  private void step() {
     if (!pending.isEmpty()) {
-      feed(at);
+      feed();
       return;
     }
     int sort = below(100);
     if (sort < 18) {
-      accounts(at);
+      accounts();
     } else if (sort < 42) {
-      programs(at);
+      programs();
     } else if (sort < 60) {
-      thoughts(at);
+      thoughts();
     } else if (sort < 80) {
-      debts(at);
+      debts();
     } else if (sort < 92) {
-      sheets(at);
+      sheets();
     } else {
-      look(at);
+      look();
     }
   }
 
-  private void accounts(String at) {
+  private void accounts() {
     int a = who();
     int what;
     int v;
@@ -87,36 +100,36 @@ public final class ModelTest {
       case 0 -> {
         what = near(4);
         v = money();
-        CHECKS.due(at + "account " + what + " " + v, x.account(what, v), model.account(what, v));
+        due("account " + what + " " + v, x.account(what, v), model.account(what, v));
       }
       case 1 -> {
         what = near(1);
         v = what == 1 ? near(below(2) == 0 ? 40 : 9999) : money();
-        CHECKS.due(at + "set " + a + " " + what + " " + v, x.set(a, what, v), model.set(a, what, v));
+        due("set " + a + " " + what + " " + v, x.set(a, what, v), model.set(a, what, v));
       }
       case 2 -> {
         boolean is = below(4) != 0;
-        CHECKS.due(at + "gate " + a + " " + is, x.gate(a, is), model.gate(a, is));
+        due("gate " + a + " " + is, x.gate(a, is), model.gate(a, is));
       }
       default -> {
         what = near(4);
-        CHECKS.due(at + "taken " + a + " " + what, x.taken(a, what), model.taken(a, what));
+        due("taken " + a + " " + what, x.taken(a, what), model.taken(a, what));
       }
     }
   }
 
-  private void programs(String at) {
+  private void programs() {
     int p = which();
     if (below(3) == 0) {
       text();
     } else if (below(30) == 0) {
       int[] b = {near(255), near(255), near(255), near(255), near(255)};
       int n = near(5);
-      CHECKS.due(at + "feed", x.feed(n, b[0], b[1], b[2], b[3], b[4]), model.feed(n, b));
+      due("feed", x.feed(n, b[0], b[1], b[2], b[3], b[4]), model.feed(n, b));
     } else if (below(30) == 0) {
-      CHECKS.due(at + "program", x.program(), model.program());
+      due("program", x.program(), model.program());
     } else {
-      CHECKS.due(at + "run " + p, x.run(p), model.run(p));
+      due("run " + p, x.run(p), model.run(p));
     }
   }
 
@@ -170,21 +183,21 @@ public final class ModelTest {
     all.append(end);
   }
 
-  private void feed(String at) {
+  private void feed() {
     int[] b = new int[5];
     int n = 0;
     while (n < 5 && !pending.isEmpty() && pending.get(0) >= 0) {
       b[n++] = pending.remove(0);
     }
     if (n > 0) {
-      CHECKS.due(at + "feed", x.feed(n, b[0], b[1], b[2], b[3], b[4]), model.feed(n, b));
+      due("feed", x.feed(n, b[0], b[1], b[2], b[3], b[4]), model.feed(n, b));
     } else {
       pending.remove(0);
-      CHECKS.due(at + "program", x.program(), model.program());
+      due("program", x.program(), model.program());
     }
   }
 
-  private void thoughts(String at) {
+  private void thoughts() {
     int p = which();
     int a = who();
     int s = near(3);
@@ -192,34 +205,34 @@ public final class ModelTest {
     switch (below(5)) {
       case 0 -> {
         what = below(2) == 0 ? near(4) : 10 + near(7);
-        CHECKS.due(at + "would " + p + " " + what, x.would(p, what), model.would(p, what));
+        due("would " + p + " " + what, x.would(p, what), model.would(p, what));
       }
-      case 1 -> CHECKS.due(at + "needed " + p + " " + a, x.needed(p, a), model.needed(p, a));
-      case 2 -> CHECKS.due(at + "hinges " + p, x.hinges(p), model.hinges(p));
+      case 1 -> due("needed " + p + " " + a, x.needed(p, a), model.needed(p, a));
+      case 2 -> due("hinges " + p, x.hinges(p), model.hinges(p));
       case 3 -> {
         what = near(1);
         String call = "tells " + s + " " + p + " " + a + " " + what;
-        CHECKS.due(at + call, x.tells(s, p, a, what), model.tells(s, p, a, what));
+        due(call, x.tells(s, p, a, what), model.tells(s, p, a, what));
       }
-      default -> CHECKS.due(at + "film " + s + " " + p, x.film(s, p), model.film(s, p));
+      default -> due("film " + s + " " + p, x.film(s, p), model.film(s, p));
     }
   }
 
-  private void debts(String at) {
+  private void debts() {
     int from = who();
     int to = who();
     int sort = below(20);
     if (sort < 15) {
       int v = below(6) == 0 ? near(99999) : below(30);
-      CHECKS.due(at + "owe " + from + " " + to + " " + v, x.owe(from, to, v), model.owe(from, to, v));
+      due("owe " + from + " " + to + " " + v, x.owe(from, to, v), model.owe(from, to, v));
     } else if (sort < 18) {
-      CHECKS.due(at + "owed " + from + " " + to, x.owed(from, to), model.owed(from, to));
+      due("owed " + from + " " + to, x.owed(from, to), model.owed(from, to));
     } else {
-      CHECKS.due(at + "net", x.net(), model.net());
+      due("net", x.net(), model.net());
     }
   }
 
-  private void sheets(String at) {
+  private void sheets() {
     int s = near(3);
     int i = below(3) == 0 ? near(60) : near(8);
     int j = below(3) == 0 ? near(60) : near(8);
@@ -227,44 +240,59 @@ public final class ModelTest {
     int other = near(3);
     int sort = below(8) == 0 ? -1 : near(1);
     switch (below(4)) {
-      case 0 -> CHECKS.due(at + "sheet " + s + " " + sort + " " + n, x.sheet(s, sort, n), model.sheet(s, sort, n));
+      case 0 -> due("sheet " + s + " " + sort + " " + n, x.sheet(s, sort, n), model.sheet(s, sort, n));
       case 1 -> {
         int v = below(4) == 0 ? random.nextInt() : below(180);
         v = below(3) == 0 ? below(8) : v;
-        CHECKS.due(at + "put " + s + " " + i + " " + v, x.put(s, i, v), model.put(s, i, v));
+        due("put " + s + " " + i + " " + v, x.put(s, i, v), model.put(s, i, v));
       }
-      case 2 -> CHECKS.due(at + "copy " + s + " " + i + " " + other + " " + j + " " + n,
+      case 2 -> due("copy " + s + " " + i + " " + other + " " + j + " " + n,
           x.copy(s, i, other, j, n), model.copy(s, i, other, j, n));
       default -> {
         n = near(below(2) == 0 ? 20 : 3);
-        CHECKS.due(at + "load " + s + " " + sort + " " + i + " " + n, x.load(s, sort, i, n), model.load(s, sort, i, n));
+        due("load " + s + " " + sort + " " + i + " " + n, x.load(s, sort, i, n), model.load(s, sort, i, n));
       }
     }
   }
 
-  /** Now and then all that can be seen is looked at; also goes back to an image, or keeps one. */
-  private void look(String at) {
-    int sort = below(4);
-    if (sort == 0) {
-      CHECKS.due(at + "image", x.image(), model.image());
-      return;
-    }
-    if (sort == 1) {
-      CHECKS.due(at + "back", x.back(), model.back());
-    }
-    for (int what = -1; what <= 8; what++) {
-      CHECKS.due(at + "count " + what, x.count(what), model.count(what));
-      CHECKS.due(at + "sum " + what, x.sum(what), model.sum(what));
-    }
-    for (int a = -1; a <= 8; a++) {
-      for (int what = -1; what <= 7; what++) {
-        CHECKS.due(at + "told " + a + " " + what, x.told(a, what), model.told(a, what));
-        CHECKS.due(at + "of " + a + " " + what, x.of(a, what), model.of(a, what));
-        CHECKS.due(at + "owed " + a + " " + what, x.owed(a, what), model.owed(a, what));
+  /** Now and then one thing is looked at; also goes back to an image, or keeps one. */
+  private void look() {
+    int a = who();
+    int what = near(7);
+    switch (below(8)) {
+      case 0 -> due("image", x.image(), model.image());
+      case 1 -> due("back", x.back(), model.back());
+      case 2 -> due("count " + what, x.count(what), model.count(what));
+      case 3 -> due("sum " + what, x.sum(what), model.sum(what));
+      case 4 -> due("told " + a + " " + what, x.told(a, what), model.told(a, what));
+      case 5 -> due("of " + a + " " + what, x.of(a, what), model.of(a, what));
+      default -> {
+        int i = near(60);
+        due("trace " + i, x.trace(i), model.trace(i));
       }
     }
-    for (int i = -1; i <= 61; i++) {
-      CHECKS.due(at + "trace " + i, x.trace(i), model.trace(i));
+  }
+
+  private void lookAtAll() {
+    for (int what = 0; what <= 7; what++) {
+      due("count " + what, x.count(what), model.count(what));
+    }
+    for (int what = 0; what <= 2; what++) {
+      due("sum " + what, x.sum(what), model.sum(what));
+    }
+    for (int a = 0; a < 8; a++) {
+      for (int what = 0; what <= 6; what++) {
+        due("told " + a + " " + what, x.told(a, what), model.told(a, what));
+      }
+      for (int what = 0; what <= 2; what++) {
+        due("of " + a + " " + what, x.of(a, what), model.of(a, what));
+      }
+      for (int to = 0; to < 8; to++) {
+        due("owed " + a + " " + to, x.owed(a, to), model.owed(a, to));
+      }
+    }
+    for (int i = 0; i < 60; i++) {
+      due("trace " + i, x.trace(i), model.trace(i));
     }
   }
 }
