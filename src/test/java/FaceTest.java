@@ -46,6 +46,11 @@ public final class FaceTest {
         got.add(told(method));
       }
     }
+    for (Class<?> inside : ClearingGates.class.getDeclaredClasses()) {
+      for (Method method : inside.getDeclaredMethods()) {
+        CHECKS.due("inside, a method named as a public one: " + method, !names.contains(method.getName()));
+      }
+    }
     CHECKS.due("methods " + got, got.equals(want));
     Constructor<?>[] made = ClearingGates.class.getDeclaredConstructors();
     CHECKS.due("one constructor", made.length, 1);

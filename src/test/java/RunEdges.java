@@ -227,6 +227,10 @@ final class RunEdges {
       e.due("what it has", x.of(1, 0), outcomes[i] == 0 && balances[i] < 1000000000 ? 1000000000 : balances[i]);
       e.due("who pays keeps it, if SHORT", x.of(0, 0) == 9999 || outcomes[i] == 0);
     }
+    ClearingGates fee = two(4, 9999, "(0(1p011000))");
+    fee.set(1, 0, 999999000);
+    after(fee, "the fee doesn't come to who is paid", 0);
+    e.due("just so much", fee.of(1, 0), 1000000000);
   }
 
   private void paid() {

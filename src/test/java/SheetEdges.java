@@ -38,7 +38,7 @@ final class SheetEdges {
     x.run(0);
     x.image();
     String kept = state(x);
-    Checks.program(x, "x");
+    Checks.program(x, "n1n2");
     x.run(0);
     x.account(3, 5);
     x.set(0, 0, 1);
@@ -51,7 +51,7 @@ final class SheetEdges {
     e.due("all is otherwise", !state(x).equals(kept));
     x.back();
     e.due("all is as it was: " + kept, state(x).equals(kept));
-    e.dueTrace("the trace is of the latest run still", x, "");
+    e.dueTrace("the trace is of the latest run still", x, "41 42");
     x.run(0);
     e.dueTrace("the program is there still", x, "10 11 11 101 21 30 21 41 20 54");
   }
@@ -417,7 +417,8 @@ final class SheetEdges {
     int[][] outside = {{0, 0, -1}, {0, 0, LEAST}, {3, 3, -1}, {6, 3, -3}, {-1, 0, 1}, {0, -1, 1}, {-1, 0, 0}, {0, -1, 0},
         {7, 0, 0}, {0, 4, 0}, {6, 0, 1}, {0, 3, 1}, {4, 0, 3}, {0, 1, 3}, {0, 0, 4}, {0, 0, 7}, {LEAST, 0, 1},
         {0, LEAST, 1}, {GREATEST, 0, 1}, {0, GREATEST, 1}, {GREATEST, 0, 0}, {1, 0, GREATEST}, {0, 1, GREATEST},
-        {GREATEST, GREATEST, GREATEST}, {LEAST, LEAST, LEAST}, {1, 1, GREATEST - 1}};
+        {GREATEST, GREATEST, GREATEST}, {LEAST, LEAST, LEAST}, {1, 1, GREATEST}, {1, 2, GREATEST}, {3, 3, GREATEST},
+        {2, 2, GREATEST - 1}, {-1, -1, 1}, {-1, -1, 2}, {-2, -2, LEAST}};
     for (int[] o : outside) {
       e.due("from " + o[0] + " to " + o[1] + ", " + o[2], x.copy(0, o[0], 1, o[1], o[2]), -12);
       e.due("within one, from " + o[0] + " to " + o[1] + ", " + o[2], x.copy(1, o[0], 1, o[1], o[2]), -12);

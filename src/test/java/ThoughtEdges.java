@@ -120,6 +120,10 @@ final class ThoughtEdges {
     x.set(0, 0, 1000000000);
     e.due("what it has doesn't matter", x.needed(0, 0), 64);
     e.due("it has that still", x.of(0, 0), 1000000000);
+    Checks.program(x, paying(1048576));
+    Checks.program(x, paying(1048577));
+    e.due("the greatest is less than it has", x.needed(1, 0), 1048576);
+    e.due("what it has would do, but is none of them", x.needed(2, 0), NONE);
     x.set(0, 0, 32);
     e.due("what another one has does", x.needed(0, 1), NONE);
     x.set(0, 0, 33);
