@@ -9,6 +9,8 @@ import java.util.Random;
 public final class ModelTest {
   private static final int RUNS = 6000, CALLS = 512, LOOK = 8 + 3 + 8 * (7 + 3 + 8) + 60;
   private static final Checks CHECKS = new Checks("ModelTest");
+  private static final int[] FARTHEST = {Integer.MIN_VALUE, Integer.MIN_VALUE + 1, Integer.MIN_VALUE + 10,
+      Integer.MAX_VALUE - 2, Integer.MAX_VALUE};
 
   private final Random random;
   private final ClearingGates x = new ClearingGates();
@@ -53,7 +55,7 @@ public final class ModelTest {
       return most + 1;
     }
     if (odd == 2) {
-      return random.nextInt();
+      return below(2) == 0 ? random.nextInt() : FARTHEST[below(FARTHEST.length)];
     }
     return odd < 8 ? most : below(most + 1);
   }
